@@ -2,6 +2,9 @@ import java.util.function.Supplier;
 
 /** Compares answers with those that are due, and ends the program with 1 if one was wrong. */
 final class Check {
+    // A broken program may answer a million calls wrongly; the first ones tell enough.
+    private static final int MOST_TOLD = 100;
+
     private static int checks = 0;
     private static int wrong = 0;
 
@@ -21,7 +24,9 @@ final class Check {
         checks++;
         if (!String.valueOf(got).equals(String.valueOf(due))) {
             wrong++;
-            System.out.println(what + " answered " + got + ", due is " + due);
+            if (wrong <= MOST_TOLD) {
+                System.out.println(what + " answered " + got + ", due is " + due);
+            }
         }
     }
 

@@ -177,6 +177,8 @@ public final class PromiseTest {
         Check.due("5: reposts show again", timeline(x, 0), "1");
         Check.due("5: the follows stay away", x.follows(0, 1) || x.follows(1, 0), false);
         Check.due("5: can follow again", x.follow(0, 1), 1);
+        Check.due("5: none to take back", x.block(1, 0, false), false);
+        Check.due("5: then the follow stays", x.follows(0, 1), true);
         Check.argument("5: oneself", () -> x.block(2, 2, true));
         Check.argument("5: oneself, not any more", () -> x.block(2, 2, false));
         for (int wrong : NO_PERSON) {
@@ -282,6 +284,13 @@ public final class PromiseTest {
             Check.index("8: no such entry", () -> x.delete(wrong));
         }
         Check.due("8: deleted entries stay numbered", x.post(1), 5);
+        x.setMark(0);
+        x.repost(2, 5);
+        Check.due("8: a fetched repost", timeline(x, 0), "6");
+        x.delete(6);
+        Check.due("8: a deleted repost is not fetched", timeline(x, 0), "5");
+        Check.due("8: the last one of all", x.delete(5), 0);
+        Check.due("8: deleted ones are not fetched", timeline(x, 0), "");
     }
 
     private static void promise9() {
@@ -574,6 +583,8 @@ public final class PromiseTest {
         x.repost(2, 4);
         Check.due("24: above the floor", x.lengthByMerging(0), 6);
         Check.due("24: the same", x.length(0), 6);
+        x.post(4);
+        Check.due("24: without others", x.lengthByMerging(0), 6);
         x.mute(0, 1, true);
         Check.due("24: without muted ones", x.lengthByMerging(0), 3);
         x.mute(0, 1, false);
