@@ -57,6 +57,10 @@ final class Model {
         }
     }
 
+    int made() {
+        return authors.size();
+    }
+
     private static boolean noPerson(int person) {
         return person < 0 || person > 7;
     }

@@ -37,7 +37,7 @@ public final class ModelTest {
         Model model = new Model();
         for (int call = 0; call < CALLS; call++) {
             String name = random.nextInt(5) < 3 ? drawn(random, weights) : ASKS[random.nextInt(ASKS.length)];
-            int[] p = arguments(random, name, program.entries());
+            int[] p = arguments(random, name, model.made());
             boolean flag = random.nextInt(3) > 0;
             String got = Check.answer(() -> answer(program, name, p, flag));
             String due = model.call(name, p[0], p[1], p[2], flag);

@@ -34,39 +34,6 @@ public final class PromiseTest {
         Check.end();
     }
 
-    /** A new object whose person 0 follows each of these authors. */
-    private static Followrow reader(int... authors) {
-        Followrow x = new Followrow();
-        for (int author : authors) {
-            x.follow(0, author);
-        }
-        return x;
-    }
-
-    private static void posts(Followrow x, int author, int count) {
-        for (int i = 0; i < count; i++) {
-            x.post(author);
-        }
-    }
-
-    private static String row(Followrow x, int person) {
-        StringBuilder row = new StringBuilder();
-        for (int i = 0; i < x.inRow(person); i++) {
-            row.append(x.rowAt(person, i)).append(' ');
-        }
-        return row.toString().trim();
-    }
-
-    private static String timeline(Followrow x, int person) {
-        StringBuilder timeline = new StringBuilder();
-        int entry = x.next(person, 150);
-        while (entry != Followrow.NONE) {
-            timeline.append(entry).append(' ');
-            entry = x.next(person, entry);
-        }
-        return timeline.toString().trim();
-    }
-
     private static void promise1() {
         Followrow x = new Followrow();
         Check.due("1: entries()", x.entries(), 0);
@@ -115,14 +82,14 @@ public final class PromiseTest {
     }
 
     private static void promise3() {
-        Followrow x = reader(1, 2);
+        Followrow x = Edges.reader(1, 2);
         x.follow(3, 1);
-        posts(x, 1, 2);
-        posts(x, 2, 1);
+        Edges.posts(x, 1, 2);
+        Edges.posts(x, 2, 1);
         Check.due("3: one is left", x.unfollow(0, 1), 1);
         Check.due("3: follows no more", x.follows(0, 1), false);
         Check.due("3: the others stay", x.follows(0, 2) && x.follows(3, 1), true);
-        Check.due("3: out of the row", row(x, 0), "2");
+        Check.due("3: out of the row", State.row(x, 0), "2");
         Check.due("3: none is left", x.unfollow(3, 1), 0);
         Check.state("3: does not follow", () -> x.unfollow(0, 1));
         Check.state("3: never followed", () -> x.unfollow(2, 0));
@@ -134,21 +101,21 @@ public final class PromiseTest {
     }
 
     private static void promise4() {
-        Followrow x = reader(1, 2);
+        Followrow x = Edges.reader(1, 2);
         x.post(1);
         x.repost(2, 0);
         x.post(2);
         Check.due("4: was not muted", x.mute(0, 1, true), false);
         Check.due("4: was muted", x.mute(0, 1, true), true);
-        Check.due("4: a muted author's entries and reposts of them", timeline(x, 0), "2");
-        Check.due("4: the row keeps them", row(x, 0), "0 1 2");
+        Check.due("4: a muted author's entries and reposts of them", State.timeline(x, 0), "2");
+        Check.due("4: the row keeps them", State.row(x, 0), "0 1 2");
         Check.due("4: follows all the same", x.follows(0, 1), true);
         Check.due("4: was muted", x.mute(0, 1, false), true);
         Check.due("4: was not muted any more", x.mute(0, 1, false), false);
-        Check.due("4: all are back", timeline(x, 0), "2 1");
+        Check.due("4: all are back", State.timeline(x, 0), "2 1");
         Check.due("4: the muted one mutes nobody", x.mute(1, 0, false), false);
         x.mute(0, 2, true);
-        Check.due("4: a muted author's repost hides no post", timeline(x, 0), "0");
+        Check.due("4: a muted author's repost hides no post", State.timeline(x, 0), "0");
         Check.due("4: an author whom nobody follows", x.mute(5, 6, true), false);
         Check.due("4: for the one alone", x.mute(4, 6, true), false);
         Check.argument("4: oneself", () -> x.mute(2, 2, true));
@@ -161,20 +128,20 @@ public final class PromiseTest {
     }
 
     private static void promise5() {
-        Followrow x = reader(1, 2);
+        Followrow x = Edges.reader(1, 2);
         x.follow(1, 0);
         x.post(1);
         x.repost(2, 0);
         Check.due("5: was not blocked", x.block(1, 0, true), false);
         Check.due("5: neither follows the other one", x.follows(0, 1) || x.follows(1, 0), false);
         Check.due("5: other follows stay", x.follows(0, 2), true);
-        Check.due("5: reposts of the blocking author's posts", timeline(x, 0), "");
+        Check.due("5: reposts of the blocking author's posts", State.timeline(x, 0), "");
         Check.due("5: was blocked", x.block(1, 0, true), true);
         Check.due("5: the other way nobody is blocked", x.block(0, 1, false), false);
         Check.state("5: still blocked", () -> x.follow(0, 1));
         Check.due("5: taken back", x.block(1, 0, false), true);
         Check.due("5: not any more", x.block(1, 0, false), false);
-        Check.due("5: reposts show again", timeline(x, 0), "1");
+        Check.due("5: reposts show again", State.timeline(x, 0), "1");
         Check.due("5: the follows stay away", x.follows(0, 1) || x.follows(1, 0), false);
         Check.due("5: can follow again", x.follow(0, 1), 1);
         Check.due("5: none to take back", x.block(1, 0, false), false);
@@ -189,20 +156,20 @@ public final class PromiseTest {
     }
 
     private static void promise5BothWays() {
-        Followrow x = reader(2);
+        Followrow x = Edges.reader(2);
         x.post(1);
         x.repost(2, 0);
         x.block(0, 1, true);
-        Check.due("5: whom the person has blocked does not matter", timeline(x, 0), "1");
+        Check.due("5: whom the person has blocked does not matter", State.timeline(x, 0), "1");
         x.block(1, 0, true);
         x.block(0, 1, false);
         Check.state("5: one block is left", () -> x.follow(0, 1));
         Check.state("5: one block is left, the other way", () -> x.follow(1, 0));
         x.block(1, 0, false);
         Check.due("5: none is left", x.follow(0, 1), 1);
-        Followrow y = reader(1);
+        Followrow y = Edges.reader(1);
         y.setRoom(1);
-        posts(y, 1, 2);
+        Edges.posts(y, 1, 2);
         y.block(1, 0, true);
         Check.due("5: a block empties the row", y.inRow(0), 0);
         Check.due("5: a block keeps the floor", y.floorOf(0), 0);
@@ -254,14 +221,14 @@ public final class PromiseTest {
         Check.state("7: the origin is deleted", () -> x.repost(0, 2));
         Check.due("7: what threw made nothing", x.entries(), 7);
         x.post(0);
-        posts(x, 0, 142);
+        Edges.posts(x, 0, 142);
         Check.state("7: 150 were made", () -> x.repost(1, 7));
         Check.index("7: 150 were made, and no such entry", () -> x.repost(1, 150));
         Check.index("7: 150 were made, and no such author", () -> x.repost(8, 7));
     }
 
     private static void promise8() {
-        Followrow x = reader(1, 2);
+        Followrow x = Edges.reader(1, 2);
         x.follow(3, 2);
         Check.index("8: no entries", () -> x.delete(0));
         x.post(1);
@@ -269,13 +236,13 @@ public final class PromiseTest {
         x.repost(4, 0);
         x.repost(2, 1);
         x.post(1);
-        Check.due("8: the newest repost shows", timeline(x, 0), "4 3");
+        Check.due("8: the newest repost shows", State.timeline(x, 0), "4 3");
         Check.due("8: a repost", x.delete(3), 0);
-        Check.due("8: the one below shows", timeline(x, 0), "4 1");
-        Check.due("8: out of the row", row(x, 0), "0 1 4");
+        Check.due("8: the one below shows", State.timeline(x, 0), "4 1");
+        Check.due("8: out of the row", State.row(x, 0), "0 1 4");
         Check.due("8: a post with two reposts left", x.delete(0), 2);
-        Check.due("8: reposts of a deleted post do not show", timeline(x, 0), "4");
-        Check.due("8: but stay in the row", row(x, 0), "1 4");
+        Check.due("8: reposts of a deleted post do not show", State.timeline(x, 0), "4");
+        Check.due("8: but stay in the row", State.row(x, 0), "1 4");
         Check.due("8: a post with none", x.delete(4), 0);
         Check.state("8: deleted", () -> x.delete(0));
         Check.state("8: deleted", () -> x.delete(3));
@@ -286,15 +253,15 @@ public final class PromiseTest {
         Check.due("8: deleted entries stay numbered", x.post(1), 5);
         x.setMark(0);
         x.repost(2, 5);
-        Check.due("8: a fetched repost", timeline(x, 0), "6");
+        Check.due("8: a fetched repost", State.timeline(x, 0), "6");
         x.delete(6);
-        Check.due("8: a deleted repost is not fetched", timeline(x, 0), "5");
+        Check.due("8: a deleted repost is not fetched", State.timeline(x, 0), "5");
         Check.due("8: the last one of all", x.delete(5), 0);
-        Check.due("8: deleted ones are not fetched", timeline(x, 0), "");
+        Check.due("8: deleted ones are not fetched", State.timeline(x, 0), "");
     }
 
     private static void promise9() {
-        Followrow x = reader(1, 2);
+        Followrow x = Edges.reader(1, 2);
         for (int person = 3; person < 8; person++) {
             x.follow(person, 1);
         }
@@ -312,16 +279,16 @@ public final class PromiseTest {
     }
 
     private static void promise10() {
-        Followrow x = reader(1);
+        Followrow x = Edges.reader(1);
         x.follow(2, 1);
-        posts(x, 1, 12);
-        Check.due("10: ten at first", row(x, 0), "2 3 4 5 6 7 8 9 10 11");
+        Edges.posts(x, 1, 12);
+        Check.due("10: ten at first", State.row(x, 0), "2 3 4 5 6 7 8 9 10 11");
         Check.due("10: the room that it was", x.setRoom(1), 10);
-        Check.due("10: cut for all", row(x, 0) + ", " + row(x, 2), "11, 11");
+        Check.due("10: cut for all", State.row(x, 0) + ", " + State.row(x, 2), "11, 11");
         Check.due("10: the floor", x.floorOf(0), 10);
         Check.due("10: the room that it was", x.setRoom(40), 1);
-        Check.due("10: floors never fall", row(x, 0) + ", " + x.floorOf(0), "11, 10");
-        posts(x, 1, 39);
+        Check.due("10: floors never fall", State.row(x, 0) + ", " + x.floorOf(0), "11, 10");
+        Edges.posts(x, 1, 39);
         Check.due("10: forty", x.inRow(0) + ", " + x.floorOf(0), "40, 10");
         x.post(1);
         Check.due("10: one more", x.inRow(0) + ", " + x.floorOf(0), "40, 11");
@@ -421,15 +388,15 @@ public final class PromiseTest {
     }
 
     private static void promise17() {
-        Followrow x = reader(1);
-        posts(x, 1, 4);
+        Followrow x = Edges.reader(1);
+        Edges.posts(x, 1, 4);
         Check.due("17: pushed", x.inRow(0), 4);
         Check.due("17: not to others", x.inRow(2) + x.inRow(1), 0);
         x.follow(2, 1);
         Check.due("17: those from before the follow", x.inRow(2), 4);
-        posts(x, 3, 2);
+        Edges.posts(x, 3, 2);
         Check.due("17: not of others", x.inRow(0), 4);
-        posts(x, 1, 7);
+        Edges.posts(x, 1, 7);
         Check.due("17: the room", x.inRow(0), 10);
         x.delete(10);
         Check.due("17: a deleted one leaves a place", x.inRow(0), 9);
@@ -439,7 +406,7 @@ public final class PromiseTest {
     }
 
     private static void promise18() {
-        Followrow x = reader(1, 2);
+        Followrow x = Edges.reader(1, 2);
         Check.index("18: an empty row", () -> x.rowAt(0, 0));
         x.post(1);
         x.post(3);
@@ -460,8 +427,8 @@ public final class PromiseTest {
     }
 
     private static void promise19() {
-        Followrow x = reader(1);
-        posts(x, 1, 10);
+        Followrow x = Edges.reader(1);
+        Edges.posts(x, 1, 10);
         Check.due("19: a full row", x.floorOf(0), -1);
         x.post(2);
         x.post(1);
@@ -481,7 +448,7 @@ public final class PromiseTest {
     }
 
     private static void promise20() {
-        Followrow x = reader(1, 2);
+        Followrow x = Edges.reader(1, 2);
         Check.index("20: no entries", () -> x.shows(0, 0));
         x.post(1);
         x.repost(2, 0);
@@ -508,7 +475,7 @@ public final class PromiseTest {
     }
 
     private static void promise21() {
-        Followrow x = reader(1, 2);
+        Followrow x = Edges.reader(1, 2);
         x.post(1);
         x.post(1);
         x.repost(2, 0);
@@ -524,16 +491,16 @@ public final class PromiseTest {
         for (int wrong : NO_PERSON) {
             Check.index("21: no such person", () -> x.next(wrong, 0));
         }
-        posts(x, 1, 147);
+        Edges.posts(x, 1, 147);
         Check.due("21: the last entry of all", x.next(0, 150), 149);
         Check.due("21: below the last entry of all", x.next(0, 149), 148);
     }
 
     private static void promise22() {
-        Followrow x = reader(1, 2);
+        Followrow x = Edges.reader(1, 2);
         x.setRoom(40);
         Check.due("22: no entries", x.pageEnd(0, 150, 20), Followrow.NONE);
-        posts(x, 1, 25);
+        Edges.posts(x, 1, 25);
         x.repost(2, 10);
         Check.due("22: one", x.pageEnd(0, 150, 1), 25);
         Check.due("22: two", x.pageEnd(0, 150, 2), 24);
@@ -555,7 +522,7 @@ public final class PromiseTest {
     }
 
     private static void promise23() {
-        Followrow x = reader(1, 2);
+        Followrow x = Edges.reader(1, 2);
         x.post(1);
         x.post(2);
         x.repost(2, 0);
@@ -563,7 +530,7 @@ public final class PromiseTest {
         Check.due("23: each origin once", x.length(0), 2);
         x.setMark(0);
         Check.due("23: large authors", x.length(0), 2);
-        posts(x, 1, 60);
+        Edges.posts(x, 1, 60);
         Check.due("23: more than any row has room for", x.length(0), 62);
         Check.due("23: of another person", x.length(1), 0);
         x.block(1, 0, true);
@@ -574,12 +541,12 @@ public final class PromiseTest {
     }
 
     private static void promise24() {
-        Followrow x = reader(1, 2);
+        Followrow x = Edges.reader(1, 2);
         x.follow(3, 2);
         x.setMark(1);
         x.setRoom(3);
-        posts(x, 1, 5);
-        posts(x, 2, 3);
+        Edges.posts(x, 1, 5);
+        Edges.posts(x, 2, 3);
         x.repost(2, 4);
         Check.due("24: above the floor", x.lengthByMerging(0), 6);
         Check.due("24: the same", x.length(0), 6);
@@ -598,9 +565,9 @@ public final class PromiseTest {
     }
 
     private static void promise25() {
-        Followrow x = reader(1);
+        Followrow x = Edges.reader(1);
         x.post(3);
-        posts(x, 1, 10);
+        Edges.posts(x, 1, 10);
         Check.due("25: nothing was cut", x.hasGap(0), false);
         x.post(1);
         Check.due("25: one was cut", x.hasGap(0), true);
@@ -615,46 +582,46 @@ public final class PromiseTest {
         for (int wrong : NO_PERSON) {
             Check.index("25: no such person", () -> x.hasGap(wrong));
         }
-        Followrow y = reader(1, 2);
+        Followrow y = Edges.reader(1, 2);
         y.setRoom(1);
-        posts(y, 1, 2);
+        Edges.posts(y, 1, 2);
         y.setMark(0);
         Check.due("25: of a large author", y.hasGap(0), true);
         Check.due("25: without a gap", y.hasGap(1), false);
     }
 
     private static void rowsKeepWhatTimelinesHide() {
-        Followrow x = reader(1, 2);
+        Followrow x = Edges.reader(1, 2);
         x.setRoom(2);
         x.post(1);
         x.mute(0, 2, true);
-        posts(x, 2, 2);
-        Check.due("rows: muted entries take places", row(x, 0), "1 2");
-        Check.due("rows: and cut others", timeline(x, 0) + x.floorOf(0), "0");
-        Followrow y = reader(2);
+        Edges.posts(x, 2, 2);
+        Check.due("rows: muted entries take places", State.row(x, 0), "1 2");
+        Check.due("rows: and cut others", State.timeline(x, 0) + x.floorOf(0), "0");
+        Followrow y = Edges.reader(2);
         y.setRoom(1);
         y.post(1);
         y.repost(2, 0);
-        Check.due("rows: the origin may stand below the floor", timeline(y, 0), "1");
+        Check.due("rows: the origin may stand below the floor", State.timeline(y, 0), "1");
         y.post(2);
-        Check.due("rows: the repost is cut", timeline(y, 0) + ", " + y.floorOf(0), "2, 1");
+        Check.due("rows: the repost is cut", State.timeline(y, 0) + ", " + y.floorOf(0), "2, 1");
     }
 
     private static void authorsCrossTheMark() {
-        Followrow x = reader(1, 2);
+        Followrow x = Edges.reader(1, 2);
         x.follow(3, 1);
         x.setMark(1);
         x.setRoom(2);
-        posts(x, 1, 3);
-        posts(x, 2, 1);
-        Check.due("mark: the row has the small ones", row(x, 0), "3");
-        Check.due("mark: the large ones are fetched", timeline(x, 0), "3 2 1 0");
+        Edges.posts(x, 1, 3);
+        Edges.posts(x, 2, 1);
+        Check.due("mark: the row has the small ones", State.row(x, 0), "3");
+        Check.due("mark: the large ones are fetched", State.timeline(x, 0), "3 2 1 0");
         x.block(3, 1, true);
-        Check.due("mark: small again", row(x, 0) + ", " + x.floorOf(0), "2 3, 1");
+        Check.due("mark: small again", State.row(x, 0) + ", " + x.floorOf(0), "2 3, 1");
         x.follow(4, 1);
-        Check.due("mark: large again, below the floor", row(x, 0) + ", " + timeline(x, 0), "3, 3 2");
+        Check.due("mark: large again, below the floor", State.row(x, 0) + ", " + State.timeline(x, 0), "3, 3 2");
         x.unfollow(4, 1);
-        Check.due("mark: and small", row(x, 0), "2 3");
+        Check.due("mark: and small", State.row(x, 0), "2 3");
         Check.due("mark: two large authors", x.setMark(0), 2);
         Check.due("mark: an empty row keeps the floor", x.inRow(0) + ", " + x.floorOf(0), "0, 1");
     }
