@@ -1,3 +1,6 @@
+import java.util.Arrays;
+import java.util.Set;
+import java.util.TreeSet;
 import java.util.function.Supplier;
 
 /** What the tests of edges have in common: ranges, refusals, and objects to begin with. */
@@ -45,13 +48,17 @@ final class Edges {
 
     /** The call, whether it throws or not, changes nothing. */
     static void unchanged(String what, Supplier<Followrow> start, Call call) {
-        String before = State.of(start);
-        String after = State.of(() -> {
+        changed(what, start, call);
+    }
+
+    /** The call changes what is due, topic by topic, and nothing else that any call answers. */
+    static void changed(String what, Supplier<Followrow> start, Call call, String... due) {
+        Set<String> got = new TreeSet<>(State.changes(State.of(start), State.of(() -> {
             Followrow x = start.get();
             Check.answer(() -> call.on(x));
             return x;
-        });
-        Check.due(what + ", what it changed", State.difference(before, after), "nothing");
+        })));
+        Check.due(what + ", what it changed", got, new TreeSet<>(Arrays.asList(due)));
     }
 
     /** A new object whose person 0 follows each of these authors. */

@@ -9,13 +9,16 @@ import java.util.Map;
 
 /**
  * Each test of the edges quotes words that stand in the document under the promise that it names,
- * and each sentence of the document has a test that quotes it.
+ * and each sentence of the document, from its first line on, has a test that quotes it.
  */
 public final class SentenceTest {
     private static final Class<?>[] TESTS = {
         TermsTest.class, FollowEdgesTest.class, EntryEdgesTest.class, SettingEdgesTest.class,
-        TimelineEdgesTest.class,
+        TimelineEdgesTest.class, EffectTest.class,
     };
+
+    // The face is FaceTest's; what is not promised has no tests.
+    private static final List<String> READ_ELSEWHERE = List.of("## The public face", "## Not promised");
 
     private static final Map<Integer, List<String>> SENTENCES = new HashMap<>();
     private static final Map<Integer, List<String>> QUOTED = new HashMap<>();
@@ -38,9 +41,24 @@ public final class SentenceTest {
             Check.due("promise " + promise + ", words of a test: " + words, stands, true);
         }
         for (String sentence : sentences) {
-            boolean tested = quoted.stream().anyMatch(sentence::contains);
-            Check.due("promise " + promise + ", has a test: " + sentence, tested, true);
+            for (String part : parts(sentence)) {
+                boolean tested = quoted.stream().anyMatch(words -> part.contains(words) || words.contains(part));
+                Check.due("promise " + promise + ", has a test: " + part, tested, true);
+            }
         }
+    }
+
+    // A sentence may tell several things at once; each of them needs a test.
+    private static List<String> parts(String sentence) {
+        if (sentence.startsWith("A timeline service: ")) {
+            return List.of(sentence.replace(".", "").split("[:;,] (and )?"));
+        }
+        if (sentence.startsWith("Throws ")) {
+            return List.of(sentence.split(", (or )?"));
+        }
+        List<String> parts = new ArrayList<>(List.of(sentence.split("; (and )?")));
+        parts.removeIf(part -> part.endsWith(" is free."));
+        return parts;
     }
 
     private static void readTests() {
@@ -64,6 +82,8 @@ public final class SentenceTest {
                 put(SENTENCES, Integer.parseInt(heading.replaceAll("\\D", "")), line);
             } else if (heading.equals("## What it is") || heading.equals("## Terms")) {
                 readTerms(line);
+            } else if (!line.isBlank() && !heading.equals("# Followrow")) {
+                Check.due("a section that is read: " + heading, READ_ELSEWHERE.contains(heading), true);
             }
         }
     }

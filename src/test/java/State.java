@@ -1,15 +1,20 @@
+import java.util.ArrayList;
+import java.util.LinkedHashMap;
+import java.util.List;
+import java.util.Map;
 import java.util.function.Supplier;
 
 /**
- * All that the calls answer about an object, one answer a line. As an object may be used for 512
- * calls alone, it is made anew, by the same calls, each time when it has been asked enough.
+ * All that the calls answer about an object: topics such as "row of 0", and what is answered about
+ * them, such as "2 5". As an object may be used for 512 calls alone, it is made anew, by the same
+ * calls, each time when it has been asked enough.
  */
 final class State {
     // What is left of the 512 calls for those that the start takes itself: 212.
     private static final int MOST_ASKED = 300;
 
     private final Supplier<Followrow> start;
-    private final StringBuilder text = new StringBuilder();
+    private final Map<String, String> answers = new LinkedHashMap<>();
     private Followrow object;
     private int left;
 
@@ -17,37 +22,42 @@ final class State {
         this.start = start;
     }
 
-    static String of(Supplier<Followrow> start) {
+    static Map<String, String> of(Supplier<Followrow> start) {
         State state = new State(start);
         int made = state.asked().entries();
-        state.put("entries " + made);
+        state.put("entries", made);
         for (int person = 0; person < 8; person++) {
             state.askPerson(person);
             state.askRow(person);
             state.askTimeline(person, made);
         }
         for (int entry = 0; entry < made; entry++) {
-            state.put("authorOf " + entry + ": " + state.asked().authorOf(entry));
-            state.put("originOf " + entry + ": " + state.asked().originOf(entry));
+            state.put("author of " + entry, state.asked().authorOf(entry));
+            state.put("origin of " + entry, state.asked().originOf(entry));
         }
+        state.probeDeleted(made);
         state.probeMutesAndBlocks();
         state.probeRoom();
         state.probeMark();
-        return state.text.toString();
+        return state.answers;
     }
 
-    /** The first line in which two states differ, or "nothing". */
-    static String difference(String before, String after) {
-        String[] was = before.split("\n");
-        String[] is = after.split("\n");
-        for (int i = 0; i < Math.max(was.length, is.length); i++) {
-            String one = i < was.length ? was[i] : "no line";
-            String other = i < is.length ? is[i] : "no line";
-            if (!one.equals(other)) {
-                return one + " -> " + other;
+    /** What differs between two states, one topic a line, as "row of 0: 2 5 -> 2 5 8". */
+    static List<String> changes(Map<String, String> before, Map<String, String> after) {
+        List<String> changes = new ArrayList<>();
+        for (String topic : after.keySet()) {
+            String was = before.getOrDefault(topic, "none");
+            String is = after.get(topic);
+            if (!was.equals(is)) {
+                changes.add(topic + ": " + was + " -> " + is);
             }
         }
-        return "nothing";
+        for (String topic : before.keySet()) {
+            if (!after.containsKey(topic)) {
+                changes.add(topic + ": " + before.get(topic) + " -> none");
+            }
+        }
+        return changes;
     }
 
     /** The row of a person, the lowest entry first. */
@@ -79,60 +89,141 @@ final class State {
         return object;
     }
 
-    private void put(String line) {
-        text.append(line).append('\n');
+    private void put(String topic, Object answer) {
+        String text = String.valueOf(answer);
+        answers.put(topic, text.isEmpty() ? "none" : text);
+    }
+
+    private static String words(List<?> list) {
+        StringBuilder words = new StringBuilder();
+        for (Object one : list) {
+            words.append(one).append(' ');
+        }
+        return words.toString().trim();
     }
 
     private void askPerson(int person) {
+        List<Integer> followed = new ArrayList<>();
         for (int author = 0; author < 8; author++) {
-            put("follows " + person + " " + author + ": " + asked().follows(person, author));
+            if (asked().follows(person, author)) {
+                followed.add(author);
+            }
         }
-        put("followers " + person + ": " + asked().followers(person));
-        put("isLarge " + person + ": " + asked().isLarge(person));
+        put("followed by " + person, words(followed));
+        put("followers of " + person, asked().followers(person));
+        put("large " + person, asked().isLarge(person));
     }
 
     private void askRow(int person) {
+        List<Integer> row = new ArrayList<>();
         int count = asked().inRow(person);
-        put("inRow " + person + ": " + count);
-        put("floorOf " + person + ": " + asked().floorOf(person));
         for (int i = 0; i < count; i++) {
-            put("rowAt " + person + " " + i + ": " + asked().rowAt(person, i));
+            row.add(asked().rowAt(person, i));
         }
+        put("row of " + person, words(row));
+        put("floor of " + person, asked().floorOf(person));
     }
 
     private void askTimeline(int person, int made) {
-        put("length " + person + ": " + asked().length(person));
-        put("lengthByMerging " + person + ": " + asked().lengthByMerging(person));
-        put("hasGap " + person + ": " + asked().hasGap(person));
+        List<Integer> timeline = new ArrayList<>();
+        int entry = asked().next(person, 150);
+        while (entry != Followrow.NONE && timeline.size() < 150) {
+            timeline.add(entry);
+            entry = asked().next(person, entry);
+        }
+        put("timeline of " + person, words(timeline));
+        put("gap of " + person, asked().hasGap(person));
+        List<String> others = new ArrayList<>();
+        askLengths(others, person, timeline.size());
+        askShows(others, person, timeline, made);
+        askPages(others, person, timeline);
+        put("calls that tell another timeline of " + person, words(others));
+    }
+
+    private void askLengths(List<String> others, int person, int due) {
+        note(others, "length", asked().length(person), due);
+        note(others, "lengthByMerging", asked().lengthByMerging(person), due);
+    }
+
+    private void askShows(List<String> others, int person, List<Integer> timeline, int made) {
         for (int entry = 0; entry < made; entry++) {
-            put("shows " + person + " " + entry + ": " + asked().shows(person, entry));
-        }
-        for (int cursor = 0; cursor <= 150; cursor++) {
-            put("next " + person + " " + cursor + ": " + asked().next(person, cursor));
-        }
-        for (int size = 1; size <= 20; size++) {
-            put("pageEnd " + person + " " + size + ": " + asked().pageEnd(person, 150, size));
+            boolean shows = asked().shows(person, entry);
+            note(others, "shows(" + entry + ")", shows, timeline.contains(entry));
         }
     }
 
-    // No call asks for mutes, blocks, the mark and the room: those that set them tell.
+    private void askPages(List<String> others, int person, List<Integer> timeline) {
+        for (int cursor = 0; cursor <= 150; cursor++) {
+            int next = asked().next(person, cursor);
+            note(others, "next(" + cursor + ")", next, pageEnd(timeline, cursor, 1));
+            askPage(others, person, timeline, cursor, 1 + cursor % 20);
+        }
+        for (int size = 1; size <= 20; size++) {
+            askPage(others, person, timeline, 150, size);
+        }
+    }
+
+    private void askPage(List<String> others, int person, List<Integer> timeline, int cursor, int size) {
+        int end = asked().pageEnd(person, cursor, size);
+        note(others, "pageEnd(" + cursor + "," + size + ")", end, pageEnd(timeline, cursor, size));
+    }
+
+    private static int pageEnd(List<Integer> timeline, int cursor, int size) {
+        int end = Followrow.NONE;
+        int left = size;
+        for (int entry : timeline) {
+            if (entry < cursor && left > 0) {
+                end = entry;
+                left--;
+            }
+        }
+        return end;
+    }
+
+    private static void note(List<String> others, String call, Object got, Object due) {
+        if (!got.equals(due)) {
+            others.add(call + "=" + got);
+        }
+    }
+
+    // No call asks what is deleted, muted and blocked, and for the room and the mark: the calls
+    // that set them tell.
+
+    private void probeDeleted(int made) {
+        Followrow x = start.get();
+        List<Integer> deleted = new ArrayList<>();
+        for (int entry = 0; entry < made; entry++) {
+            int number = entry;
+            if (Check.answer(() -> x.delete(number)).equals(Check.STATE)) {
+                deleted.add(entry);
+            }
+        }
+        put("deleted", words(deleted));
+    }
 
     private void probeMutesAndBlocks() {
         Followrow x = start.get();
         for (int one = 0; one < 8; one++) {
+            List<Integer> muted = new ArrayList<>();
+            List<Integer> blocked = new ArrayList<>();
             for (int other = 0; other < 8; other++) {
-                if (one != other) {
-                    put("muted " + one + " " + other + ": " + x.mute(one, other, false));
-                    put("blocked " + one + " " + other + ": " + x.block(one, other, false));
+                if (one != other && x.mute(one, other, false)) {
+                    muted.add(other);
+                }
+                if (one != other && x.block(one, other, false)) {
+                    blocked.add(other);
                 }
             }
+            put("muted by " + one, words(muted));
+            put("blocked by " + one, words(blocked));
         }
     }
 
     private void probeRoom() {
-        put("room: " + start.get().setRoom(1));
+        put("room", start.get().setRoom(1));
     }
 
+    // The mark is told by the first follower too many; the marks 7 and 8 are told apart by nothing.
     private void probeMark() {
         Followrow x = start.get();
         for (int person = 1; person < 8; person++) {
@@ -140,9 +231,11 @@ final class State {
             x.block(0, person, false);
             x.block(person, 0, false);
         }
-        for (int person = 1; person < 8; person++) {
-            x.follow(person, 0);
-            put("large by " + person + ": " + x.isLarge(0));
+        int followers = 0;
+        while (followers < 7 && !x.isLarge(0)) {
+            followers++;
+            x.follow(followers, 0);
         }
+        put("mark", x.isLarge(0) ? followers - 1 : "7 or more");
     }
 }

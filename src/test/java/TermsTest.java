@@ -4,7 +4,24 @@ public final class TermsTest {
         Check.run(TermsTest.class);
     }
 
-    // ---- what it is
+    // ---- what it is: each part of the first sentence, and the second one
+
+    @About(words = "A timeline service")
+    private static void aNewObjectServes() {
+        Followrow x = new Followrow();
+        x.follow(0, 1);
+        Check.due("a post", x.post(1), 0);
+        Check.due("in the timeline", x.next(0, 150), 0);
+    }
+
+    @About(words = "people follow authors")
+    private static void peopleFollow() {
+        Followrow x = new Followrow();
+        Edges.posts(x, 1, 1);
+        Check.due("before", x.follows(0, 1) + ", " + State.timeline(x, 0), "false, ");
+        x.follow(0, 1);
+        Check.due("then", x.follows(0, 1) + ", " + State.timeline(x, 0), "true, 0");
+    }
 
     @About(words = "posts of small authors are pushed into the rows of their followers")
     private static void smallAuthorsArePushed() {
@@ -27,6 +44,55 @@ public final class TermsTest {
         Check.due("the author's own timeline", State.timeline(x, 7), "");
     }
 
+    @About(words = "rows are cut")
+    private static void rowsAreCut() {
+        Followrow x = Edges.reader(1);
+        Edges.posts(x, 1, 12);
+        Check.due("by ten", rowAndFloor(x, 0), "2 3 4 5 6 7 8 9 10 11, 1");
+        Check.due("and the timeline with it", State.timeline(x, 0), "11 10 9 8 7 6 5 4 3 2");
+    }
+
+    @About(words = "authors cross the mark")
+    private static void authorsCrossTheMarkByFollows() {
+        Followrow x = Edges.reader(1);
+        Edges.followed(x, 1, 2, 3);
+        x.post(1);
+        Check.due("three followers", x.isLarge(1) + ", " + State.row(x, 0), "false, 0");
+        x.follow(4, 1);
+        Check.due("four followers", x.isLarge(1) + ", " + State.row(x, 0), "true, ");
+        x.unfollow(2, 1);
+        Check.due("three again", x.isLarge(1) + ", " + State.row(x, 0), "false, 0");
+    }
+
+    @About(words = "posts are deleted")
+    private static void postsAreDeleted() {
+        Followrow x = Edges.reader(1);
+        Edges.posts(x, 1, 2);
+        x.delete(0);
+        Check.due("one is left", State.row(x, 0) + ", " + State.timeline(x, 0), "1, 1");
+    }
+
+    @About(words = "reposts show once")
+    private static void repostsShowOnce() {
+        Followrow x = Edges.reader(1, 2, 3);
+        x.post(1);
+        x.repost(2, 0);
+        x.repost(3, 0);
+        x.repost(3, 1);
+        Check.due("the newest one alone", State.timeline(x, 0) + "; " + State.row(x, 0), "3; 0 1 2 3");
+    }
+
+    @About(words = "people mute and block one another")
+    private static void peopleMuteAndBlockOneAnother() {
+        Followrow x = new Followrow();
+        x.mute(0, 1, true);
+        Check.due("the other one mutes too", x.mute(1, 0, true), false);
+        Check.due("both do", x.mute(0, 1, true) && x.mute(1, 0, true), true);
+        x.block(0, 1, true);
+        Check.due("the other one blocks too", x.block(1, 0, true), false);
+        Check.due("both do", x.block(0, 1, true) && x.block(1, 0, true), true);
+    }
+
     @About(words = "An object is used for at most 512 calls after it has been made")
     private static void theLastCallOfAll() {
         Followrow x = Edges.reader(1);
@@ -36,7 +102,37 @@ public final class TermsTest {
         Check.due("the 512th call", x.mute(0, 1, true), false);
     }
 
+    @About(words = "An object is used for at most 512 calls after it has been made")
+    private static void theLastCallOfAllInAFullObject() {
+        Followrow x = Edges.full();
+        for (int entry = 0; entry < 147; entry++) {
+            x.delete(entry);
+        }
+        for (int call = 299; call <= 511; call++) {
+            x.setRoom(1 + call % 40);
+        }
+        Check.due("the 512th call", x.lengthByMerging(0), 1);
+    }
+
     // ---- terms: people and entries
+
+    @About(words = "People follow, post, repost, delete, mute and block")
+    private static void whatPeopleDo() {
+        Followrow x = new Followrow();
+        Check.due("follow", x.follow(0, 1), 1);
+        Check.due("post", x.post(1), 0);
+        Check.due("repost", x.repost(2, 0), 1);
+        Check.due("delete", x.delete(0), 1);
+        Check.due("mute", x.mute(3, 1, true), false);
+        Check.due("block", x.block(4, 1, true), false);
+    }
+
+    @About(words = "rows and marks are asked")
+    private static void rowsAndMarksAreAsked() {
+        Followrow x = Edges.lively();
+        Check.due("the row", State.row(x, 0) + ", " + x.inRow(0) + ", " + x.floorOf(0), "2 5, 2, 1");
+        Check.due("over the mark", x.isLarge(2) + ", " + x.isLarge(0), "true, false");
+    }
 
     @About(words = "timelines are read newest first by cursors")
     private static void newestFirst() {
@@ -111,6 +207,17 @@ public final class TermsTest {
         Check.state("no repost any more", () -> x.repost(0, 0));
         Check.due("the last one's author", x.authorOf(149), 0);
         Check.index("the number 150", () -> x.authorOf(150));
+    }
+
+    @About(words = "An entry is a post, or a repost of a post")
+    private static void postsAndRepostsAreEntries() {
+        Followrow x = Edges.reader(1, 2);
+        x.post(1);
+        x.repost(2, 0);
+        Check.due("both count", x.entries(), 2);
+        Check.due("both are in the row", State.row(x, 0), "0 1");
+        Check.due("both have an author", x.authorOf(0) + ", " + x.authorOf(1), "1, 2");
+        Check.due("both can be deleted", x.delete(1) + ", " + x.delete(0), "0, 0");
     }
 
     @About(words = "its origin is the post itself, or the post that it reposts")
@@ -626,18 +733,13 @@ public final class TermsTest {
 
     @About(words = "A call that throws an exception changes nothing.")
     private static void manyRefusedCallsChangeNothing() {
-        String before = State.of(Edges::lively);
-        String after = State.of(() -> {
-            Followrow x = Edges.lively();
+        Edges.unchanged("all of them", Edges::lively, x -> {
             for (Edges.Call call : REFUSED) {
                 String got = Check.answer(() -> call.on(x));
-                if (!got.startsWith("throws.")) {
-                    throw new IllegalArgumentException("not refused: " + got);
-                }
+                Check.due("refused", got.startsWith("throws."), true);
             }
-            return x;
+            return "none";
         });
-        Check.due("what they changed", State.difference(before, after), "nothing");
     }
 
     private static final Edges.Call[] REFUSED = {
