@@ -1,5 +1,4 @@
 import java.io.IOException;
-import java.io.StringWriter;
 import java.lang.reflect.Method;
 import java.lang.reflect.Modifier;
 import java.net.URL;
@@ -12,8 +11,6 @@ import java.util.List;
 import java.util.regex.Matcher;
 import java.util.regex.Pattern;
 import java.util.stream.Stream;
-import javax.tools.JavaCompiler;
-import javax.tools.ToolProvider;
 
 /**
  * README.md shows each call of the face, and the answers beside its calls are those that the
@@ -84,29 +81,25 @@ public final class ReadmeTest {
     private static List<?> run(String body) throws IOException, ReflectiveOperationException {
         Path folder = Files.createTempDirectory("readme");
         try {
-            Path source = folder.resolve("Shown.java");
-            Files.writeString(source, "public final class Shown {\n"
+            Files.writeString(folder.resolve("Shown.java"), "public final class Shown {\n"
                     + "public static java.util.List<String> run() {\n"
                     + "java.util.List<String> got = new java.util.ArrayList<>();\n"
                     + body + "return got;\n}\n}\n");
-            StringWriter complaints = new StringWriter();
-            boolean compiled = compile(source, complaints);
-            Check.due("README.md compiles: " + complaints, compiled, true);
+            boolean compiled = compile(folder);
+            Check.due("README.md compiles", compiled, true);
             return compiled ? call(folder) : List.of();
         } finally {
             remove(folder);
         }
     }
 
-    private static boolean compile(Path source, StringWriter complaints) {
-        JavaCompiler compiler = ToolProvider.getSystemJavaCompiler();
-        List<String> options = List.of("-classpath", System.getProperty("java.class.path"),
-                "-d", source.getParent().toString());
-        try (var files = compiler.getStandardFileManager(null, null, null)) {
-            return compiler.getTask(complaints, files, null, options, null,
-                    files.getJavaFileObjects(source)).call();
-        } catch (IOException e) {
-            complaints.write(e.toString());
+    private static boolean compile(Path folder) throws IOException {
+        Process javac = new ProcessBuilder("javac", "-encoding", "UTF-8", "-classpath",
+                Path.of(System.getProperty("java.class.path")).toAbsolutePath().toString(),
+                "-d", ".", "Shown.java").directory(folder.toFile()).inheritIO().start();
+        try {
+            return javac.waitFor() == 0;
+        } catch (InterruptedException e) {
             return false;
         }
     }
